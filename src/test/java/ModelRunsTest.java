@@ -47,7 +47,8 @@ public final class ModelRunsTest {
         "levels 1", "levels 2", "levels 3", "levels 4",
         "look: a clean page leaves", "look: a dirty page leaves", "look: empty",
         "look: empty, after a page was freed in the call", "look: pinned", "look: round", "look: used",
-        "next: ends", "next: goes on", "next: the next leaf", "seek: the next leaf",
+        "next: ends", "next: goes on", "next: its leaf is read", "next: the next leaf",
+        "seek: the next leaf",
         "put: had one", "put: no page is free", "put: too few pages are free",
         "put: throws, and the cursor stays", "remove: none", "the root goes",
     };
@@ -97,7 +98,8 @@ public final class ModelRunsTest {
             }
             at++;
             int key = pickKey(range, order, at);
-            calls.add(pickCall(key, grow, range));
+            boolean quiet = run % 4 == 3 && phase % 40 > 20;
+            calls.add(quiet ? pickQuietCall(key) : pickCall(key, grow, range));
         }
         return calls;
     }
@@ -143,6 +145,15 @@ public final class ModelRunsTest {
             return new int[] {ASTRAY, 0, 0};
         }
         return PROBES.get(pick(PROBES.size()));
+    }
+
+    /** Calls that leave the cursor on while pages come and go in the frames. */
+    private static int[] pickQuietCall(int key) {
+        int dice = pick(20);
+        if (dice < 17) {
+            return new int[] {GET, key, 0};
+        }
+        return dice == 17 ? new int[] {SEEK, key, 0} : new int[] {NEXT, 0, 0};
     }
 
     /** All calls that only look, with the edges and with what is none. */

@@ -410,6 +410,9 @@ final class PagedTreeModel {
         pinned.clear();
         List<Page> way = way(cursorKey);
         Page leaf = way.get(way.size() - 1);
+        if (frameOf(leaf) == null) {
+            came("next: its leaf is read");
+        }
         touch(leaf, false);
         boolean last = indexOf(leaf, cursorKey) == leaf.items.size() - 1;
         if (last && leaf.nextLeaf != null) {

@@ -495,6 +495,7 @@ public final class PromisesTest {
         due("next to none: hits", tree.told(4), hits + 5);
         dueEnded("next to none", tree);
         due("next that throws: hits", tree.told(4), hits + 5);
+        nextWhenItsLeafHasLeft();
         int seen = 0;
         PagedTree all = grown(-20, 20);
         for (boolean on = all.seek(MIN); on; on = all.next()) {
@@ -502,6 +503,23 @@ public final class PromisesTest {
             seen++;
         }
         due("all keys", seen, 41);
+    }
+
+    private static void nextWhenItsLeafHasLeft() {
+        PagedTree tree = grown(1, 19);
+        tree.flush();
+        tree.drop();
+        tree.seek(1);
+        int[] keys = {5, 9, 13, 3, 7, 11, 15, 17};
+        for (int key : keys) {
+            tree.get(key);
+        }
+        dueFrame("page 0 has left", tree, 2, 12, 1, 0);
+        int reads = tree.told(5);
+        due("next() of a leaf that has left", tree.next(), true);
+        due("next() of a leaf that has left: key", tree.cursor(false), 2);
+        due("next() of a leaf that has left: reads", tree.told(5), reads + 1);
+        dueFrame("page 0 is back", tree, 3, 0, 1, 0);
     }
 
     private static void cursorAnswers() {
