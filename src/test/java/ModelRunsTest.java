@@ -12,6 +12,7 @@ import java.util.TreeMap;
 public final class ModelRunsTest {
     private static final int CALLS = 512;
     private static final int RUNS = 240;
+    private static final int QUIET = 45;
     private static final int MIN = Integer.MIN_VALUE;
     private static final int MAX = Integer.MAX_VALUE;
 
@@ -98,8 +99,9 @@ public final class ModelRunsTest {
             }
             at++;
             int key = pickKey(range, order, at);
-            boolean quiet = run % 4 == 3 && phase % 40 > 20;
-            calls.add(quiet ? pickQuietCall(key) : pickCall(key, grow, range));
+            int turn = calls.size() % (3 * QUIET);
+            boolean quiet = run % 4 == 3 && turn < QUIET;
+            calls.add(quiet ? pickQuietCall(turn, key) : pickCall(key, grow, range));
         }
         return calls;
     }
@@ -147,13 +149,12 @@ public final class ModelRunsTest {
         return PROBES.get(pick(PROBES.size()));
     }
 
-    /** Calls that leave the cursor on while pages come and go in the frames. */
-    private static int[] pickQuietCall(int key) {
-        int dice = pick(20);
-        if (dice < 17) {
-            return new int[] {GET, key, 0};
+    /** The cursor stays on while so many pages come that its leaf may have left when it goes on. */
+    private static int[] pickQuietCall(int turn, int key) {
+        if (turn == 0) {
+            return new int[] {SEEK, key, 0};
         }
-        return dice == 17 ? new int[] {SEEK, key, 0} : new int[] {NEXT, 0, 0};
+        return turn < QUIET - 5 ? new int[] {GET, key, 0} : new int[] {NEXT, 0, 0};
     }
 
     /** All calls that only look, with the edges and with what is none. */
