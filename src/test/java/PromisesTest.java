@@ -1,15 +1,7 @@
 import java.util.NoSuchElementException;
 
 /** Each promise of the document by runs of calls that were worked out by hand. */
-public final class PromisesTest {
-    private static final Check CHECK = new Check();
-    private static final int NONE = PagedTree.NONE;
-    private static final int MIN = Integer.MIN_VALUE;
-    private static final int MAX = Integer.MAX_VALUE;
-    private static final int FREE = 0;
-    private static final int LEAF = 1;
-    private static final int INNER = 2;
-
+public final class PromisesTest extends Look {
     public static void main(String[] args) {
         newObject();
         putSplitsLeaves();
@@ -36,77 +28,6 @@ public final class PromisesTest {
         toldAnswers();
         nothingAstray();
         CHECK.end();
-    }
-
-    // ---- helpers
-
-    private static PagedTree grown(int first, int last) {
-        PagedTree tree = new PagedTree();
-        for (int key = first; key <= last; key++) {
-            tree.put(key, 10 * key);
-        }
-        return tree;
-    }
-
-    private static void due(String call, long got, long want) {
-        CHECK.due(call, got, want);
-    }
-
-    private static void due(String call, boolean got, boolean want) {
-        CHECK.due(call, got, want);
-    }
-
-    private static void dueLeaf(String name, PagedTree tree, int page, int next, int... keys) {
-        String at = name + ": page " + page;
-        due(at + " what it is", tree.page(page, 0), LEAF);
-        due(at + " entries", tree.page(page, 1), keys.length);
-        due(at + " next", tree.page(page, 2), next);
-        for (int i = 0; i < keys.length && i < tree.page(page, 1); i++) {
-            due(at + " key " + i, tree.item(page, i, false), keys[i]);
-        }
-    }
-
-    /** Children and marks in turn: child, mark, child, mark, child .. */
-    private static void dueInner(String name, PagedTree tree, int page, int... row) {
-        String at = name + ": page " + page;
-        int children = (row.length + 1) / 2;
-        due(at + " what it is", tree.page(page, 0), INNER);
-        due(at + " children", tree.page(page, 1), children);
-        due(at + " next", tree.page(page, 2), NONE);
-        for (int i = 0; i < children && i < tree.page(page, 1); i++) {
-            due(at + " child " + i, tree.item(page, i, true), row[2 * i]);
-            due(at + " mark " + i, tree.item(page, i, false), i == 0 ? 0 : row[2 * i - 1]);
-        }
-    }
-
-    private static void dueFree(String name, PagedTree tree, int page) {
-        String at = name + ": page " + page;
-        due(at + " what it is", tree.page(page, 0), FREE);
-        due(at + " items", tree.page(page, 1), 0);
-        due(at + " next", tree.page(page, 2), NONE);
-        CHECK.dueThrow(at + " item 0", IndexOutOfBoundsException.class, () -> tree.item(page, 0, false));
-        for (int frame = 0; frame < 12; frame++) {
-            due(at + " is in frame " + frame, tree.frame(frame, 0) == page, false);
-        }
-    }
-
-    private static void dueFrame(String name, PagedTree tree, int frame, int page, int used, int dirty) {
-        String at = name + ": frame " + frame;
-        due(at + " page", tree.frame(frame, 0), page);
-        due(at + " used", tree.frame(frame, 1), used);
-        due(at + " dirty", tree.frame(frame, 2), dirty);
-    }
-
-    private static void dueTold(String name, PagedTree tree, int... told) {
-        for (int what = 0; what < told.length; what++) {
-            due(name + ": told(" + what + ")", tree.told(what), told[what]);
-        }
-    }
-
-    private static void dueEnded(String name, PagedTree tree) {
-        CHECK.dueThrow(name + ": cursor(false)", NoSuchElementException.class, () -> tree.cursor(false));
-        CHECK.dueThrow(name + ": cursor(true)", NoSuchElementException.class, () -> tree.cursor(true));
-        CHECK.dueThrow(name + ": next()", NoSuchElementException.class, () -> tree.next() ? 1 : 0);
     }
 
     // ---- promise 1
