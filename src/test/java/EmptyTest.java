@@ -23,6 +23,8 @@ public final class EmptyTest extends Look {
         nextWithoutAny();
         nextInItsLeaf();
         nextInTheNextLeaf();
+        cursorEnds();
+        cursorStays();
         nextOfALeafThatIsNone();
         nextOfTheLastLeaf();
         nextOfAPageThatWasALeaf();
@@ -267,6 +269,47 @@ public final class EmptyTest extends Look {
         due("next() behind the last leaf", tree.next(), false);
         due("there is no next one", tree.told(READ), read);
         dueEnded("next() behind the last leaf", tree);
+    }
+
+    private static void cursorEnds() {
+        about("The CURSOR ends.");
+        PagedTree tree = grown(1, 5);
+        tree.seek(2);
+        due("put of a new key", tree.put(6, 60), true);
+        dueEnded("put of a new key", tree);
+        tree.seek(2);
+        due("put of the same value", tree.put(2, 20), false);
+        dueEnded("put of the same value", tree);
+        about("The cursor ends.");
+        tree.seek(2);
+        due("remove of another key", tree.remove(6), true);
+        dueEnded("remove of another key", tree);
+        tree.seek(2);
+        due("remove of none", tree.remove(6), false);
+        dueEnded("remove of none", tree);
+        about("All frames are empty, the hand is at 0, the cursor ends: how many had a page.");
+        tree.flush();
+        tree.seek(2);
+        due("drop()", tree.drop(), 3);
+        dueEnded("drop()", tree);
+    }
+
+    private static void cursorStays() {
+        about("The key at the cursor, or (on value) what it had when the cursor came there.");
+        PagedTree tree = grown(1, 5);
+        tree.seek(2);
+        tree.get(5);
+        dueCursor("after get", tree, 2, 20);
+        tree.flush();
+        dueCursor("after flush", tree, 2, 20);
+        tree.page(0, 0);
+        tree.item(1, 1, true);
+        tree.frame(0, 0);
+        tree.told(0);
+        tree.astray();
+        dueCursor("after calls that look", tree, 2, 20);
+        due("next()", tree.next(), true);
+        dueCursor("after next", tree, 3, 30);
     }
 
     // ---- promise 10

@@ -14,6 +14,7 @@ public final class FullAndShortTest extends Look {
         leafRootSplits();
         innerRootSplits();
         newPagesChange();
+        leafChanges();
         pagesAreEnoughForOne();
         pagesAreEnoughForTwo();
         pagesAreEnoughBelowTheRoot();
@@ -203,6 +204,29 @@ public final class FullAndShortTest extends Look {
         tree.put(13, 130);
         dueFramePages("without the root", tree, 7, 6, 5, 8);
         dueDirty("without the root", tree, 6, 5, 8);
+    }
+
+    private static void leafChanges() {
+        about("A page that changes is dirty.");
+        PagedTree tree = grown(1, 5);
+        emptyFrames(tree);
+        tree.put(5, 51);
+        dueDirty("another value", tree, 1);
+        tree.flush();
+        tree.put(5, 51);
+        dueDirty("the same value: put says that the leaf changes", tree, 1);
+        tree.flush();
+        tree.put(6, 60);
+        dueDirty("a new entry", tree, 1);
+        tree.flush();
+        tree.remove(6);
+        dueDirty("an entry that went", tree, 1);
+        tree.flush();
+        tree.remove(6);
+        tree.get(5);
+        tree.seek(1);
+        tree.next();
+        dueDirty("nothing changes", tree);
     }
 
     // ---- pages that are too few
