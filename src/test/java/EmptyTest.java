@@ -113,7 +113,7 @@ public final class EmptyTest extends Look {
         emptyFrames(tree);
         int hits = tree.told(HITS);
         int read = tree.told(READ);
-        int[] keys = {MIN, 9, 11, 29, 50 + 1, 111, MAX};
+        int[] keys = {MIN, 9, 11, 29, 51, 111, MAX};
         for (int key : keys) {
             dueThrow("get(" + key + ")", NO_ELEMENT, () -> tree.get(key));
         }

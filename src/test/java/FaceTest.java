@@ -60,6 +60,17 @@ public final class FaceTest {
             check.due("a private method has the public name " + m.getName(),
                     Modifier.isPrivate(m.getModifiers()) && publicNames.contains(m.getName()), false);
         }
+        for (Field f : PagedTree.class.getDeclaredFields()) {
+            check.due("the static field " + f.getName() + " can change",
+                    Modifier.isStatic(f.getModifiers()) && !Modifier.isFinal(f.getModifiers()), false);
+        }
+        for (Class<?> c : PagedTree.class.getDeclaredClasses()) {
+            int inside = c.getModifiers();
+            check.due(c.getName() + " is static", Modifier.isStatic(inside), true);
+            check.due(c.getName() + " is seen outside", Modifier.isPublic(inside) || Modifier.isProtected(inside), false);
+        }
+        check.due("the class above it is Object", PagedTree.class.getSuperclass() == Object.class, true);
+        check.due("interfaces", PagedTree.class.getInterfaces().length, 0);
         int modifiers = PagedTree.class.getModifiers();
         check.due("the class is public", Modifier.isPublic(modifiers), true);
         check.due("the class is final", Modifier.isFinal(modifiers), true);

@@ -209,7 +209,7 @@ public final class ModelRunsTest {
 
     private static void compareStates(int run, List<int[]> calls, int step) {
         Map<String, Integer> unused = new TreeMap<>();
-        for (int n = 1; n < CALLS - 16 && CHECK.isClean(); n += step) {
+        for (int n = 1; n < CALLS && CHECK.isClean(); n += step) {
             PagedTreeModel model = new PagedTreeModel(unused);
             for (int i = 0; i < n; i++) {
                 answer(model, calls.get(i));
