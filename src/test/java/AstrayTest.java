@@ -72,6 +72,9 @@ public final class AstrayTest extends Look {
         PagedTree one = eightPages();
         row(one, "disk", "sizes")[6] = 1;
         due("an inner page with one child", one.astray(), 3);
+        PagedTree free = eightPages();
+        row(free, "disk", "sizes")[20] = 1;
+        due("a free page with an item", free.astray(), 1);
     }
 
     private static void keysAstray() throws ReflectiveOperationException {
