@@ -75,6 +75,9 @@ public final class AstrayTest extends Look {
         PagedTree free = eightPages();
         row(free, "disk", "sizes")[20] = 1;
         due("a free page with an item", free.astray(), 1);
+        PagedTree gone = new PagedTree();
+        row(gone, "disk", "kinds")[0] = FREE;
+        due("a root that is free", gone.astray(), 1);
     }
 
     private static void keysAstray() throws ReflectiveOperationException {
